@@ -815,6 +815,7 @@ public final class RotaMuseum {
         private static final int MOST_DIGITS = 4;
 
         private final byte[] text;
+        // Seven letters go into one number, the first one highest, so that words are told apart by ==.
         private final long[] own = new long[OWN_COUNT];
         private int length = 0;
         private int stop = 0;
@@ -835,15 +836,10 @@ public final class RotaMuseum {
                     word++;
                     k = 0;
                 } else {
-                    own[word] |= packed(sign, k);
+                    own[word] |= (long) (sign - 'a' + 1) << 5 * (MOST_LETTERS - k);
                     k++;
                 }
             }
-        }
-
-        // Seven letters go into one number, the first one highest, so that words are told apart by ==.
-        private static long packed(int letter, int k) {
-            return k <= MOST_LETTERS ? (long) (letter - 'a' + 1) << 5 * (MOST_LETTERS - k) : 0;
         }
 
         static int letterOf(long name, int k) {
@@ -928,32 +924,28 @@ public final class RotaMuseum {
 
         private boolean cutWord() {
             name = 0;
-            while (isLetterAt(stop)) {
-                name |= packed(text[stop], stop - start);
+            while (stop < length && text[stop] >= 'a' && text[stop] <= 'z') {
+                if (stop - start <= MOST_LETTERS) {
+                    name |= (long) (text[stop] - 'a' + 1) << 5 * (MOST_LETTERS - stop + start);
+                }
                 stop++;
             }
             int letters = stop - start;
-            value = letters <= MOST_LETTERS + 1 ? ownWord() : NONE;
-            if (value == NONE && letters > MOST_LETTERS) {
-                return fail(1, start + MOST_LETTERS);
-            }
-            kind = value == NONE ? NAME : OWN;
-            return true;
-        }
-
-        private int ownWord() {
-            for (int word = 0; word < OWN_COUNT; word++) {
+            kind = NAME;
+            for (int word = 0; word < OWN_COUNT && letters <= MOST_LETTERS + 1; word++) {
                 if (own[word] == name) {
-                    return word;
+                    kind = OWN;
+                    value = word;
+                    return true;
                 }
             }
-            return NONE;
+            return letters <= MOST_LETTERS || fail(1, start + MOST_LETTERS);
         }
 
         private boolean cutNumber() {
             kind = NUMBER;
             value = 0;
-            while (isDigitAt(stop)) {
+            while (stop < length && text[stop] >= '0' && text[stop] <= '9') {
                 if (stop - start >= MOST_DIGITS) {
                     return fail(1, stop);
                 }
@@ -977,19 +969,12 @@ public final class RotaMuseum {
             this.target = target;
         }
 
-        boolean readSum(Town town) {
+        void begin(Town town) {
             target = town;
             open = 0;
-            return sum();
         }
 
-        boolean readTest(Town town) {
-            target = town;
-            open = 0;
-            return test();
-        }
-
-        private boolean sum() {
+        boolean sum() {
             if (!product()) {
                 return false;
             }
@@ -1076,7 +1061,7 @@ public final class RotaMuseum {
             return true;
         }
 
-        private boolean test() {
+        boolean test() {
             if (!both()) {
                 return false;
             }
@@ -1137,9 +1122,17 @@ public final class RotaMuseum {
         }
 
         private boolean opensRound() {
-            return lexer.isSign('(') ? opens() : lexer.failHere(1);
+            if (!lexer.isSign('(')) {
+                return lexer.failHere(1);
+            }
+            if (open >= MOST_OPEN) {
+                return lexer.failHere(5);
+            }
+            open++;
+            return lexer.advance();
         }
 
+        // At a ( or [ or not.
         private boolean opens() {
             if (open >= MOST_OPEN) {
                 return lexer.failHere(5);
@@ -1150,7 +1143,7 @@ public final class RotaMuseum {
 
         private boolean closes(char sign) {
             open--;
-            return passes(sign);
+            return lexer.isSign(sign) ? lexer.advance() : lexer.failHere(1);
         }
 
         private boolean passes(char sign) {
@@ -1188,6 +1181,7 @@ public final class RotaMuseum {
         boolean read(Town town, int length) {
             target = town;
             target.clear();
+            formulas.begin(target);
             if (!lexer.begin(length)) {
                 return false;
             }
@@ -1362,14 +1356,14 @@ public final class RotaMuseum {
 
         private boolean readDraws() {
             target.drawsFrom = target.codeLength;
-            boolean stands = formulas.readSum(target);
+            boolean stands = formulas.sum();
             target.drawsTo = target.codeLength;
             return stands;
         }
 
         private boolean readMay() {
             target.mayFrom = target.codeLength;
-            boolean stands = formulas.readTest(target);
+            boolean stands = formulas.test();
             target.mayTo = target.codeLength;
             return stands;
         }
@@ -1475,8 +1469,11 @@ public final class RotaMuseum {
             int found = NONE;
             lookAround(scene, gang);
             for (int thing = 0; thing < town.counts[THINGS]; thing++) {
-                if (isFree(scene, gang, thing)) {
-                    int pull = pullOfGiven();
+                if (lookAt(scene, gang, thing) && (!town.hasMay() || resultOf(town.mayFrom, town.mayTo) != 0)) {
+                    int pull = given[Lexer.WORTH] + given[Lexer.WANTS];
+                    if (town.hasDraws()) {
+                        pull = resultOf(town.drawsFrom, town.drawsTo);
+                    }
                     if (pull > most) {
                         most = pull;
                         found = thing;
@@ -1490,7 +1487,7 @@ public final class RotaMuseum {
             int bits = 0;
             lookAround(scene, gang);
             for (int thing = 0; thing < town.counts[THINGS]; thing++) {
-                if (isFree(scene, gang, thing)) {
+                if (lookAt(scene, gang, thing) && (!town.hasMay() || resultOf(town.mayFrom, town.mayTo) != 0)) {
                     bits |= 1 << thing;
                 }
             }
@@ -1514,7 +1511,8 @@ public final class RotaMuseum {
             given[Lexer.GONE] = gone;
         }
 
-        private boolean isFree(Scene scene, int gang, int thing) {
+        // False, if the THING does not hang, or not for long enough.
+        private boolean lookAt(Scene scene, int gang, int thing) {
             if (scene.where[thing] != HANGS_HERE || scene.since[thing] < town.hangs[thing]) {
                 return false;
             }
@@ -1522,14 +1520,7 @@ public final class RotaMuseum {
             given[Lexer.WANTS] = town.wanted(gang, thing);
             given[Lexer.HUNG] = scene.since[thing];
             given[Lexer.HANGS] = town.hangs[thing];
-            return !town.hasMay() || resultOf(town.mayFrom, town.mayTo) != 0;
-        }
-
-        private int pullOfGiven() {
-            if (!town.hasDraws()) {
-                return given[Lexer.WORTH] + given[Lexer.WANTS];
-            }
-            return resultOf(town.drawsFrom, town.drawsTo);
+            return true;
         }
 
         private int resultOf(int from, int to) {
@@ -1542,41 +1533,32 @@ public final class RotaMuseum {
                 } else if (sign < FIRST_SIGN) {
                     stack[top] = given[sign - FIRST_GIVEN];
                     top++;
-                } else {
-                    top = topBehind(sign, top);
+                } else if (sign == DENY && top >= 1) {
+                    stack[top - 1] = 1 - stack[top - 1];
+                } else if (sign == CHOOSE && top >= 3) {
+                    top -= 2;
+                    stack[top - 1] = stack[top - 1] != 0 ? stack[top] : stack[top + 1];
+                } else if (top >= 2) {
+                    top--;
+                    long result = joined(sign, stack[top - 1], stack[top]);
+                    stack[top - 1] = (int) (result > LIMIT ? LIMIT : result < -LIMIT ? -LIMIT : result);
                 }
             }
             return stack[0];
         }
 
-        private int topBehind(int sign, int top) {
-            if (sign == DENY && top >= 1) {
-                stack[top - 1] = 1 - stack[top - 1];
-                return top;
-            }
-            if (sign == CHOOSE && top >= 3) {
-                stack[top - 3] = stack[top - 3] != 0 ? stack[top - 2] : stack[top - 1];
-                return top - 2;
-            }
-            if (top >= 2) {
-                stack[top - 2] = joined(sign, stack[top - 2], stack[top - 1]);
-                return top - 1;
-            }
-            return top;
-        }
-
-        private static int joined(int sign, int a, int b) {
+        private static long joined(int sign, int a, int b) {
             switch (sign) {
                 case ADD:
-                    return limited(a + b);
+                    return a + b;
                 case SUBTRACT:
-                    return limited(a - b);
+                    return a - b;
                 case MULTIPLY:
-                    return limited((long) a * b);
+                    return (long) a * b;
                 case DIVIDE:
-                    return b == 0 ? 0 : limited(Math.floorDiv(a, b));
+                    return b == 0 ? 0 : Math.floorDiv(a, b);
                 case REST:
-                    return b == 0 ? 0 : limited(Math.floorMod(a, b));
+                    return b == 0 ? 0 : Math.floorMod(a, b);
                 case LEAST:
                     return Math.min(a, b);
                 case MOST:
@@ -1592,10 +1574,6 @@ public final class RotaMuseum {
                 default:
                     return a | b;
             }
-        }
-
-        private static int limited(long number) {
-            return (int) Math.max(-LIMIT, Math.min(LIMIT, number));
         }
     }
 
