@@ -1672,11 +1672,11 @@ public final class RotaMuseum {
         }
 
         void solve(Scene now, int n) {
-            if (n == nights) {
+            gangs = judge.town.counts[GANGS];
+            if (n == nights || gangs == 0) {
                 return;
             }
             nights = n;
-            gangs = judge.town.counts[GANGS];
             mostWorth = NONE;
             Arrays.fill(order, NONE);
             scenes[0].become(now);

@@ -140,6 +140,40 @@ public final class ModelTest {
         return s.toString();
     }
 
+    /** Spoiled by whole STATEMENTS, NAMES and NUMBERS, so that the later FAULTS come up too. */
+    private String turned(String text) {
+        String[] parts = text.split(";");
+        int i = upTo(parts.length - 1);
+        int j = upTo(parts.length - 1);
+        switch (upTo(6)) {
+            case 0:
+                parts[i] = parts[i] + ";" + parts[j];
+                break;
+            case 1:
+                String former = parts[i];
+                parts[i] = parts[j];
+                parts[j] = former;
+                break;
+            case 2:
+                parts[i] = parts[i].replaceFirst("[0-9]+", pick("30", "31", "99", "100", "101", "0", "9999", "10000"));
+                break;
+            case 3:
+                parts[i] = parts[i].replaceFirst("(worth|hung|gone|all|[0-9])", pick("((((((($1)))))))", "(((((((($1", "not not not not $1",
+                    "[[[[[[[$1", "min(1,max(1,if(not [all],min(1,max($1,(1)),1),1)"));
+                break;
+            case 4:
+                parts[i] = parts[i].replaceFirst(" [tgv][a-h]\\b", " " + name(pick("t", "g", "v"), upTo(7)));
+                break;
+            case 5:
+                parts[i] = parts[i].replaceFirst("rota", "rota ga ga ga ga ga ga ga ga") + " " + pick("ga", "gb", "museum", "zzzzzzz", "5");
+                break;
+            default:
+                parts[i] = parts[i] + ";" + "quarrel 5;".repeat(upTo(80));
+                break;
+        }
+        return String.join(";", parts) + ";";
+    }
+
     private void tape(byte[] bytes) {
         for (int from = 0; from < bytes.length; from += 20) {
             int[] n = new int[5];
@@ -156,7 +190,10 @@ public final class ModelTest {
         String text = text();
         if (upTo(2) == 0) {
             text = spoiled(text);
+        } else if (upTo(2) == 0) {
+            text = turned(upTo(1) == 0 ? turned(text) : text);
         }
+        text = text.substring(0, Math.min(1600, text.length()));
         tape(text.getBytes(StandardCharsets.ISO_8859_1));
         log = text;
         due("town()", x.town(), m.town());
