@@ -862,7 +862,9 @@ public final class RotaMuseum {
         }
 
         boolean failHere(int fault) {
-            return fail(fault, start);
+            faultKind = fault;
+            faultPlace = start;
+            return false;
         }
 
         boolean isSign(char sign) {
@@ -911,10 +913,10 @@ public final class RotaMuseum {
                 return failHere(1);
             }
             if (isWord) {
-                return cutWord();
+                return cutWord() || fail(1, start + MOST_LETTERS);
             }
             if (isDigitAt(start)) {
-                return cutNumber();
+                return cutNumber() || fail(1, start + MOST_DIGITS);
             }
             kind = SIGN;
             value = text[start] & 255;
@@ -922,6 +924,7 @@ public final class RotaMuseum {
             return true;
         }
 
+        // False, if the word is too long.
         private boolean cutWord() {
             name = 0;
             while (stop < length && text[stop] >= 'a' && text[stop] <= 'z') {
@@ -939,15 +942,16 @@ public final class RotaMuseum {
                     return true;
                 }
             }
-            return letters <= MOST_LETTERS || fail(1, start + MOST_LETTERS);
+            return letters <= MOST_LETTERS;
         }
 
+        // False, if the number is too long.
         private boolean cutNumber() {
             kind = NUMBER;
             value = 0;
             while (stop < length && text[stop] >= '0' && text[stop] <= '9') {
                 if (stop - start >= MOST_DIGITS) {
-                    return fail(1, stop);
+                    return false;
                 }
                 value = 10 * value + text[stop] - '0';
                 stop++;
