@@ -1687,7 +1687,7 @@ public final class RotaMuseum {
             seat(0, 0, 0);
         }
 
-        // Turns are filled as NIGHTS come to them, which need not begin with the first turn.
+        // Turns are filled as NIGHTS come to them, which need not begin with the first turn; the others stay NONE.
         private void seat(int depth, int seated, int worth) {
             if (depth >= gangs || depth >= nights) {
                 weigh(depth, seated, worth);
@@ -1703,7 +1703,6 @@ public final class RotaMuseum {
                     seat(depth + 1, seated | 1 << gang, worth + then.worthHanging(judge.town));
                 }
             }
-            order[turn] = NONE;
         }
 
         private void weigh(int depth, int seated, int worthSoFar) {

@@ -230,6 +230,34 @@ public final class FaultTest {
         fault(1, eighty.substring(0, eighty.length() - 1) + "^");
     }
 
+    // What stood on the tape behind its end is no part of the text.
+    private static void cut(int kind, String marked, String behind) {
+        int place = marked.indexOf('^');
+        String text = marked.substring(0, place) + marked.substring(place + 1);
+        RotaMuseum x = new RotaMuseum();
+        Kit.feed(x, text + behind);
+        x.end(text.length());
+        Kit.due("town of " + marked, x.town(), RotaMuseum.NONE);
+        Kit.due("fault of " + marked, x.fault(0), kind);
+        Kit.due("place of " + marked, x.fault(1), place);
+    }
+
+    private static void ends() {
+        cut(1, "museum 5 ^keep", "s 5;");
+        cut(1, "museum 10^", "0 keeps 5;");
+        cut(1, "museum 5 keeps 5^", ";");
+        cut(1, "museum^", "5");
+        cut(1, BASE + "rota g g g g g g g g g g g g ^", "g;");
+        cut(1, BASE + "draws 1^", "+2;");
+        RotaMuseum x = new RotaMuseum();
+        Kit.feed(x, HEAD + "thing");
+        x.end(HEAD.length());
+        Kit.due("nothing behind the end", x.town(), 1);
+        // What was left open in a text at fault is not open in the next one.
+        Kit.due("left open", Kit.town(x, HEAD + "draws (((((((1;"), RotaMuseum.NONE);
+        Kit.due("left open", Kit.town(x, HEAD + "draws (((((((1)))))));"), 2);
+    }
+
     public static void main(String[] args) {
         first();
         longOnes();
@@ -238,6 +266,7 @@ public final class FaultTest {
         formulas();
         open();
         tooMany();
+        ends();
         Kit.finish("FaultTest");
     }
 }

@@ -97,6 +97,15 @@ public final class PromiseTest {
         due("4: no wants", x.gang(0, 10), 0);
         due("4: no visitors", x.has(2), 0);
         due("4: can take", x.gang(0, 2), 1);
+        // What was reckoned for the former town does not hold in the next one.
+        due("4: best", x.best(1, 1), NONE);
+        due("4: rota", x.rota(1, NONE), 0);
+        Kit.town(x, "museum 1 keeps 1;thing a worth 8 hangs 0;gang g at 3;rota g;wants g a 4;draws 0;");
+        due("4: best", x.best(1, 1), 4);
+        due("4: rota", x.rota(1, NONE), 8);
+        Kit.town(x, "museum 1 keeps 1;thing a worth 9 hangs 0;gang g at 3;rota g;wants g a 5;draws 0;");
+        due("4: best", x.best(1, 1), 5);
+        due("4: rota", x.rota(1, NONE), 9);
         due("4: the last wants and quarrel count",
             Kit.town(x, "museum 1 keeps 1;thing a worth 3 hangs 0;gang g at 3;rota g;wants g a 5;wants g a 0;quarrel 100;quarrel 0;"), 8);
         due("4: wants", x.gang(0, 10), 0);
