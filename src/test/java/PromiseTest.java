@@ -536,6 +536,13 @@ public final class PromiseTest {
             x.on();
             due("formula " + row[0] + " is " + row[1], x.gang(0, 2), 1);
         }
+        // As deep as it goes, with as much waiting as can be.
+        String deep = "1";
+        for (int i = 0; i < 7; i++) {
+            deep = "if(2=1 or 1=1 and 1<1+1*" + deep + ",1+1*1,0)";
+        }
+        RotaMuseum d = Kit.museum("museum 5 keeps 30;thing a worth 1 hangs 0;gang g at 1;may 2=1 or 1=1 and 3=1+1*" + deep + ";");
+        due("formula as deep as it goes", d.gang(0, 2), 1);
         // Taken is what draws most, of like ones the first, and above 0.
         RotaMuseum x = Kit.museum("museum 5 keeps 30;thing a worth 1 hangs 0;thing b worth 3 hangs 0;thing c worth 3 hangs 0;gang g at 1;rota g;draws worth-1;");
         due("draws", x.nights(5), 2);
