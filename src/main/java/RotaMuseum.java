@@ -1639,8 +1639,9 @@ public final class RotaMuseum {
 
         private void followOn(int depth, int gang, int taken) {
             if (depth + 1 >= nights) {
-                int next = (depth + 1) * MOST_GANGS;
-                Arrays.fill(gains, next, next + MOST_GANGS, 0);
+                for (int other = 0; other < MOST_GANGS; other++) {
+                    gains[(depth + 1) * MOST_GANGS + other] = 0;
+                }
                 return;
             }
             Scene then = scenes[depth + 1];
