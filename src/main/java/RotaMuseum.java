@@ -38,7 +38,7 @@ public final class RotaMuseum {
     private final byte[] tape = new byte[MOST_BYTES];
     private int tapeLength = 0;
     private final int[] refused = new int[OF_OTHERS + 1];
-        private int faultKind = 0;
+    private int faultKind = 0;
     private int faultPlace = NONE;
     private Town city = new Town();
     private Town spare = new Town();

@@ -3,23 +3,12 @@ public final class FaultTest {
     private static final String HEAD = "museum 5 keeps 5;";
     private static final String BASE = HEAD + "thing t worth 5 hangs 5;thing u worth 5 hangs 5;gang g at 5;visitor v sees t;";
 
-    // The place of the FAULT is where ^ stands; the mark itself is no part of the text.
     private static void fault(int kind, String marked) {
-        int place = marked.indexOf('^');
-        String text = marked.substring(0, place) + marked.substring(place + 1);
-        RotaMuseum x = new RotaMuseum();
-        Kit.due("town of " + marked, Kit.town(x, text), RotaMuseum.NONE);
-        Kit.due("fault of " + marked, x.fault(0), kind);
-        Kit.due("place of " + marked, x.fault(1), place);
-        Kit.due("refused of " + marked, x.status(1), 1);
+        Kit.fault(kind, marked);
     }
 
     private static void stands(int statements, String text) {
-        RotaMuseum x = new RotaMuseum();
-        Kit.due("town of " + text, Kit.town(x, text), statements);
-        Kit.due("fault of " + text, x.fault(0), 0);
-        Kit.due("place of " + text, x.fault(1), RotaMuseum.NONE);
-        Kit.due("refused of " + text, x.status(1), 0);
+        Kit.stands(statements, text);
     }
 
     private static void first() {
