@@ -144,6 +144,87 @@ public final class EdgeAheadTest {
         due("then none, as h leaves one", x.best(3, 0), NONE);
     }
 
+    // What each GANG takes is counted for that GANG alone.
+    private static void bestOfEachGang() {
+        String town = "museum 5 keeps 30;thing a worth 9 hangs 0;thing b worth 9 hangs 0;thing c worth 9 hangs 0;gang f at 1;gang g at 1;gang h at 2;"
+            + "wants f a 50;wants f b 40;wants g a 7;wants g c 5;wants h b 3;wants h c 2;";
+        // If g takes a, f takes b and h takes c: nothing is left; if it takes c or none, f takes a and h takes b: 5 alone.
+        RotaMuseum x = Kit.museum(town + "rota g f h g;");
+        for (int n = 1; n <= 4; n++) {
+            due("g by " + n, x.best(n, 1), 7);
+            due("g now by " + n, x.best(n, 0), 0);
+        }
+        x = Kit.museum(town + "rota h g g f;");
+        due("h takes b, g takes a and c", x.best(3, 0), 1);
+        due("worth b alone", x.best(3, 1), 3);
+        x = Kit.museum(town + "rota h f h;");
+        due("f takes a in between, b and c are had", x.best(3, 1), 5);
+        due("either first: the first thing", x.best(3, 0), 1);
+        x = Kit.museum(town + "rota h h h;");
+        due("h alone", x.best(2, 1), 5);
+        due("either first: the first thing", x.best(2, 0), 1);
+        due("one night may go by", x.best(3, 0), NONE);
+        x = Kit.museum(town + "rota g g;");
+        due("g by 2", x.best(2, 1), 12);
+        due("the first thing", x.best(2, 0), 0);
+    }
+
+    // Asked by fewer NIGHTS behind more, and on another scene, the answer is of what was asked.
+    private static void askedAgain() {
+        RotaMuseum x = Kit.museum("museum 5 keeps 1;thing t worth 7 hangs 0;gang f at 1;gang g at 1;rota g;wants g t 9;");
+        for (int n : new int[] {4, 3, 2, 1, 4, 1, 3, 1}) {
+            due("best by " + n, x.best(n, 1), 9 * n);
+            due("best by " + n, x.best(n, 0), 0);
+        }
+        RotaMuseum y = eachItsOwn(0, 60, 50, 40, 30, 20, 10);
+        due("rota by 6", y.rota(6, NONE), 700);
+        due("rota by 1", y.rota(1, NONE), 200);
+        due("its second turn", y.rota(1, 1), 0);
+        due("rota by 6", y.rota(6, 5), 0);
+        for (int t = 0; t < 6; t++) {
+            y.steal(t);
+        }
+        due("nothing hangs", y.rota(6, NONE), 0);
+        for (int k = 0; k < 6; k++) {
+            due("the first order", y.rota(6, k), k);
+        }
+    }
+
+    // Each ACT, undo(), on() and town() makes another scene.
+    private static void askedBehindEachChange() {
+        String town = "museum 5 keeps 9;thing a worth 7 hangs 0;thing b worth 3 hangs 0;gang g at 1;gang h at 1;rota g;wants g a 9;wants g b 4;";
+        RotaMuseum x = Kit.museum(town);
+        asked("at first", x, 9, 3);
+        x.nights(1);
+        asked("g has a", x, 4, 0);
+        x.undo();
+        asked("undone", x, 9, 3);
+        x.chance(1);
+        asked("g has a", x, 4, 0);
+        x.back(0);
+        asked("back", x, 9, 3);
+        x.steal(0);
+        asked("stolen", x, 4, 0);
+        Kit.put(x, 0, 1, 9, 2, 0);
+        asked("a is brought back", x, 9, 0);
+        x.swap(0, 1);
+        asked("swapped", x, 0, 0);
+        Kit.town(x, town + "wants g a 8;");
+        asked("another town", x, 8, 3);
+        Kit.town(x, town.replace("worth 3", "worth 2"));
+        asked("another town", x, 9, 2);
+        Kit.town(x, town.replace("rota g;", ""));
+        due("no turn", x.best(1, 1), NONE);
+        due("rota", x.rota(1, NONE), 3);
+        Kit.town(x, "museum 5 keeps 9;");
+        due("no gang", x.rota(1, NONE), NONE);
+    }
+
+    private static void asked(String what, RotaMuseum x, int best, int rota) {
+        due(what + ", best", x.best(1, 1), best);
+        due(what + ", rota", x.rota(1, NONE), rota);
+    }
+
     // A NIGHT of BEST begins with what is brought back, too.
     private static void bestBehindWhatIsBroughtBack() {
         String town = "museum 5 keeps 3;thing t worth 7 hangs 0;gang g at 1;gang h at 1;rota g;wants g t 9;";
@@ -269,6 +350,45 @@ public final class EdgeAheadTest {
         order("night 9998, the last one", eachItsOwn(9998, 30, 20, 10), 1, 50, 0, 1, 2);
         order("night 9993 of six", eachItsOwn(9993, 60, 50, 40, 30, 20, 10), 6, 700, 2, 1, 0, 5, 4, 3);
         due("night 9994 of six, beyond", eachItsOwn(9994, 60, 50, 40, 30, 20, 10).rota(6, NONE), NONE);
+    }
+
+    // Each order told as a rota: ROTA is the first of those behind which later() tells most together.
+    private static void rotaIsTheBestOfAllOrders() {
+        String town = "museum 5 keeps 2;thing a worth 50 hangs 3;thing b worth 7 hangs 0;thing c worth 30 hangs 1;gang f at 1;gang g at 1;gang h at 2;"
+            + "wants f b 90;wants g c 30;wants h c 9;wants h b 33;draws wants+worth/5-has*9;may hung<9 or has=0;";
+        int[][] orders = {{0, 1, 2}, {0, 2, 1}, {1, 0, 2}, {1, 2, 0}, {2, 0, 1}, {2, 1, 0}};
+        for (int night = 0; night < 6; night++) {
+            int[] rows = {0, night, 1 + night % 3, 1, 0, 2 * night};
+            RotaMuseum x = Kit.museumOn(town, night, rows);
+            for (int n = 1; n <= 12; n++) {
+                int most = -1;
+                int[] found = null;
+                for (int[] order : orders) {
+                    RotaMuseum y = Kit.museumOn(town + "rota " + (char) ('f' + order[0]) + " " + (char) ('f' + order[1]) + " " + (char) ('f' + order[2]) + ";", night, rows);
+                    int together = 0;
+                    for (int i = 1; i <= n; i++) {
+                        together += y.later(i, 10);
+                    }
+                    if (together > most) {
+                        most = together;
+                        found = order;
+                    }
+                }
+                order("night " + night + ", by " + n, x, n, most, found);
+            }
+        }
+    }
+
+    private static void rotaOfLikeOnesOnOtherNights() {
+        for (int night = 0; night < 12; night++) {
+            order("all alike on night " + night, eachItsOwn(night, 5, 5, 5, 5, 5, 5), 6, 75, 0, 1, 2, 3, 4, 5);
+            order("all alike on night " + night + ", one night", eachItsOwn(night, 5, 5, 5, 5, 5, 5), 1, 25, 0, 1, 2, 3, 4, 5);
+            order("worth nothing on night " + night, eachItsOwn(night, 0, 0, 0), 3, 0, 0, 1, 2);
+        }
+        // Those of worth 5 come first by NIGHTS, but of like orders the first is told by turns.
+        order("night 1", eachItsOwn(1, 9, 5, 9, 5), 4, 50, 0, 1, 3, 2);
+        order("night 2", eachItsOwn(2, 9, 5, 9, 5), 4, 50, 0, 2, 1, 3);
+        order("night 3", eachItsOwn(3, 9, 5, 9, 5), 4, 50, 1, 0, 2, 3);
     }
 
     private static void rotaInPlaceOfTheRota() {
@@ -523,6 +643,9 @@ public final class EdgeAheadTest {
         seesAllAtOnce();
         bestByOneToFour();
         bestOfLikeOnes();
+        bestOfEachGang();
+        askedAgain();
+        askedBehindEachChange();
         bestBehindWhatIsBroughtBack();
         bestIsWhatMayBeTaken();
         bestWithoutATurn();
@@ -531,6 +654,8 @@ public final class EdgeAheadTest {
         rotaOfOneToSix();
         rotaOfLikeOnes();
         rotaOnOtherNights();
+        rotaIsTheBestOfAllOrders();
+        rotaOfLikeOnesOnOtherNights();
         rotaInPlaceOfTheRota();
         wayThroughTheHouses();
         wayToThoseWhoHaveIt();

@@ -469,6 +469,27 @@ public final class EdgeNightTest {
         }
     }
 
+    // As many NIGHTS as can go by in 20 ACTS, all with something taken: what was told as KEPT ahead of them is told again.
+    private static void keptAheadOfTwentyActs() {
+        for (int first : new int[] {59, 60, 61, 100}) {
+            RotaMuseum x = Kit.museum(EACH_NIGHT);
+            x.nights(first);
+            for (int i = 0; i < 20; i++) {
+                due("taken", x.nights(100), 100);
+            }
+            for (int i = 19; i >= 0; i--) {
+                due("undo", x.undo(), true);
+                int night = first + 100 * i;
+                int told = Math.min(60, night);
+                due("told", x.has(8), told);
+                due("the oldest", x.kept(0, 0), night - told);
+                due("whose", x.kept(0, 1), (night - told) % 2);
+                due("the newest", x.kept(told - 1, 0), night - 1);
+            }
+            Kit.refuses("no more", x, 4, () -> !x.undo());
+        }
+    }
+
     // Acts anew behind some that were undone: the ring goes round.
     private static void actsBehindUndo() {
         RotaMuseum x = Kit.museum(EACH_NIGHT);
@@ -558,6 +579,7 @@ public final class EdgeNightTest {
         broughtBackByHand();
         swapped();
         twentyActs();
+        keptAheadOfTwentyActs();
         actsBehindUndo();
         eachActIsOne();
         Kit.finish("EdgeNightTest");

@@ -452,17 +452,16 @@ public final class EdgeTownTest {
             HEAD + "gang ", HEAD + "gang a ", HEAD + "gang a at ", HEAD + "gang a at 1 ", BASE + "rota ", BASE + "rota g ", BASE + "wants ",
             BASE + "wants g ", BASE + "wants g t ", BASE + "wants g t 1 ", BASE + "visitor ", BASE + "visitor w ", BASE + "visitor w sees ",
             BASE + "visitor w sees t ", HEAD + "quarrel ", HEAD + "quarrel 5 ", HEAD + "draws ", HEAD + "draws 1 ", HEAD + "draws 1+",
-            HEAD + "draws (", HEAD + "draws min", HEAD + "draws min(1,", HEAD + "may ", HEAD + "may 1 ", HEAD + "may 1<", HEAD + "may not ",
-            HEAD + "may all "};
+            HEAD + "draws 1*", HEAD + "draws (", HEAD + "draws min ", HEAD + "draws min(", HEAD + "draws min(1,", HEAD + "draws if(", HEAD + "draws if(all,",
+            HEAD + "draws if(all,1,", HEAD + "may ", HEAD + "may 1 ", HEAD + "may 1<", HEAD + "may not ", HEAD + "may [", HEAD + "may all ",
+            HEAD + "may all and ", HEAD + "may all or ", HEAD + "may all or all and "};
         for (String start : ahead) {
-            String blank = start.endsWith("min") ? " " : "";
-            String text = start + blank;
-            Kit.fault(1, text.length() + 6, text + "abcdefg;");
-            Kit.fault(1, text.length() + 6, text + "museums;");
-            Kit.fault(1, text.length() + 6, text + "abcdefgh");
-            Kit.fault(1, text.length() + 4, text + "12345;");
-            Kit.fault(1, text.length() + 4, text + "00000;");
-            Kit.fault(1, text.length() + 4, text + "123456789");
+            Kit.fault(1, start.length() + 6, start + "abcdefg;");
+            Kit.fault(1, start.length() + 6, start + "museums;");
+            Kit.fault(1, start.length() + 6, start + "abcdefgh");
+            Kit.fault(1, start.length() + 4, start + "12345;");
+            Kit.fault(1, start.length() + 4, start + "00000;");
+            Kit.fault(1, start.length() + 4, start + "123456789");
         }
     }
 
@@ -584,6 +583,7 @@ public final class EdgeTownTest {
             + " ovisitor gccc osees kaaa s; odraws s( oworth s+ n1234 s) s* omin s( ohung s, ohas s) s% oif s( onight s< n12 s, n34 s, ogone s) s; omay onot"
             + " s[ oall oand owants s= n56 s] oor ohangs s> n78 s; oquarrel n10 s;").split(" ");
         StringBuilder text = new StringBuilder();
+        String whole = String.join(" ", tokens).replaceAll("(^| )[ogkns]", "$1");
         int statements = 0;
         for (String token : tokens) {
             char kind = token.charAt(0);
@@ -591,22 +591,51 @@ public final class EdgeTownTest {
             int start = text.length();
             for (int cut = 1; cut < word.length(); cut++) {
                 String part = text + word.substring(0, cut);
-                Kit.fault(kind == 'k' ? 3 : 1, kind == 'o' || kind == 'k' ? start : part.length(), part);
+                int place = kind == 'o' || kind == 'k' ? start : part.length();
+                Kit.fault(kind == 'k' ? 3 : 1, place, part);
+                cutOff(kind == 'k' ? 3 : 1, place, whole, part.length());
             }
             text.append(word);
+            if (!word.equals(";")) {
+                cutOff(1, text.length(), whole, text.length());
+            }
             if (word.equals(";")) {
                 statements++;
                 Kit.stands(statements, text.toString());
             } else {
                 Kit.fault(1, text.length(), text.toString());
             }
-            text.append(statements % 2 == 0 ? ' ' : '\n');
+            text.append(' ');
             if (word.equals(";")) {
                 Kit.stands(statements, text.toString());
             } else {
                 Kit.fault(1, text.length(), text.toString());
             }
         }
+    }
+
+    // What stood on the tape behind its end is no part of the text.
+    private static void cutOff(int kind, int place, String whole, int length) {
+        RotaMuseum x = new RotaMuseum();
+        Kit.feed(x, whole);
+        x.end(length);
+        due("town of " + length + " bytes", x.town(), NONE);
+        due("fault of " + length + " bytes", x.fault(0), kind);
+        due("place of " + length + " bytes", x.fault(1), place);
+    }
+
+    // A number that would be too long, a word that would be another one, if the text went on.
+    private static void endsWithinAWord() {
+        cutOff(1, 11, "museum 0055555", 11);
+        cutOff(4, 7, "museum 1000000 keeps 5;", 11);
+        cutOff(1, 9, "museum 9 keeps 5;", 13);
+        cutOff(1, 14, "museum 9 keeps5;", 14);
+        cutOff(1, HEAD.length() + 11, HEAD + "gang abcdefghi at 1;", HEAD.length() + 11);
+        cutOff(1, BASE.length() + 29, BASE + "rota" + " g".repeat(12) + " g;", BASE.length() + 29);
+        RotaMuseum x = new RotaMuseum();
+        Kit.feed(x, HEAD + "x");
+        x.end(HEAD.length());
+        due("nothing behind the end", x.town(), 1);
     }
 
     // FAULTS, the first along the text
@@ -871,6 +900,88 @@ public final class EdgeTownTest {
         }
     }
 
+    private static void signsTogether() {
+        String[] hold = {"1<2", "2>1", "2=2", "0-1<0", "9999>9998", "[3>2]", "not 2>3"};
+        String[] fail = {"2<2", "3<2", "2>2", "1>2", "1=2", "not 3>2", "[1>2]"};
+        for (String a : hold) {
+            due(a, canTake(a), true);
+            due("not " + a, canTake("not " + a), false);
+            due("not not " + a, canTake("not not " + a), true);
+            for (String b : hold) {
+                due(a + " and " + b, canTake(a + " and " + b), true);
+                due(a + " or " + b, canTake(a + " or " + b), true);
+            }
+            for (String b : fail) {
+                due(a + " and " + b, canTake(a + " and " + b), false);
+                due(b + " and " + a, canTake(b + " and " + a), false);
+                due(a + " or " + b, canTake(a + " or " + b), true);
+                due(b + " or " + a, canTake(b + " or " + a), true);
+            }
+        }
+        for (String a : fail) {
+            due(a, canTake(a), false);
+            due("not " + a, canTake("not " + a), true);
+            for (String b : fail) {
+                due(a + " and " + b, canTake(a + " and " + b), false);
+                due(a + " or " + b, canTake(a + " or " + b), false);
+            }
+        }
+    }
+
+    // Whichever of draws and may comes first in the text.
+    private static void drawsAndMay() {
+        String base = HEAD + "thing a worth 1 hangs 0;thing b worth 2 hangs 0;thing c worth 3 hangs 0;gang g at 1;rota g;";
+        for (String both : new String[] {"may worth<3;draws worth*2;", "draws worth*2;may worth<3;"}) {
+            RotaMuseum x = Kit.museum(base + both);
+            due("can take, " + both, x.gang(0, 2), 3);
+            due("takes, " + both, x.nights(1), 1);
+            due("takes b, " + both, x.kept(0, 2), 1);
+        }
+        for (String both : new String[] {"may worth>1;draws 3-worth;", "draws 3-worth;may worth>1;"}) {
+            RotaMuseum x = Kit.museum(base + both);
+            due("can take, " + both, x.gang(0, 2), 6);
+            due("takes one alone, " + both, x.nights(5), 1);
+            due("takes b, " + both, x.kept(0, 2), 1);
+        }
+    }
+
+    // Nothing of what was read before is left in a text that is read later, whether it stood or had a FAULT.
+    private static void oneTownBehindAnother() {
+        String full = "museum 9 keeps 9;" + things(8) + gangs(6) + visitors(6) + "rota ga gb;wants ga ta 9;wants gf th 8;draws 7*worth;may not all;quarrel 100;";
+        String[] between = {full, full + "x", HEAD + "draws (((((((1", HEAD + "may not not not not not not [all", things(3)};
+        RotaMuseum x = new RotaMuseum();
+        for (String text : between) {
+            Kit.town(x, full);
+            Kit.town(x, text);
+            // Names of before are free, rota, draws and may can be told again.
+            String small = HEAD + "thing a worth 5 hangs 0;gang tb at 1;gang ga at 1;thing gb worth 0 hangs 0;visitor th sees gb;";
+            due("small", Kit.town(x, small), 6);
+            due("no rota", x.has(4), 0);
+            due("no turn", x.gang(1, 3), 0);
+            due("things", x.has(0), 2);
+            due("gangs", x.has(1), 2);
+            due("visitors", x.has(2), 1);
+            for (int gang = 0; gang < 2; gang++) {
+                due("wants nothing", x.gang(gang, 10) + x.gang(gang, 11), 0);
+                due("can take all", x.gang(gang, 2), 3);
+            }
+            x.steal(0);
+            due("sees no other thing", x.sees(0), 0);
+            due("no more names", x.letter(0, 2, 0), NONE);
+            due("again", Kit.town(x, small + "rota ga;draws (((((((1)))))));may not not not not not not not not all;"), NONE);
+            due("fault 5", x.fault(0), 5);
+            due("again", Kit.town(x, small + "rota ga;draws (((((((1)))))));may [[[[[[[all]]]]]]];"), 9);
+            due("no quarrel", x.chance(50), 0);
+            due("it takes what draws 1", x.has(8) > 0, true);
+            due("again, without", Kit.town(x, small + "rota ga;"), 7);
+            due("draws by worth", x.nights(1), 1);
+            due("the first thing", x.kept(0, 2), 0);
+            due("not what is worth 0", x.nights(1), 0);
+            due("names of before are not asked", Kit.town(x, small + "wants ga ta 5;"), NONE);
+            due("fault 3", x.fault(0), 3);
+        }
+    }
+
     public static void main(String[] args) {
         eightyStatements();
         theEightyFirstWhateverItIs();
@@ -911,6 +1022,7 @@ public final class EdgeTownTest {
         blanksWhereOneLikes();
         sideBySide();
         endsTooSoon();
+        endsWithinAWord();
         theFirstFaultAlongTheText();
         sevenOpenOfEachKind();
         openOfAllKindsTogether();
@@ -925,6 +1037,9 @@ public final class EdgeTownTest {
         leastAndMost();
         choice();
         testsTogether();
+        signsTogether();
+        drawsAndMay();
+        oneTownBehindAnother();
         Kit.finish("EdgeTownTest");
     }
 }
