@@ -945,6 +945,26 @@ public final class EdgeTownTest {
         }
     }
 
+    // As long a formula as can be, again and again, and a shorter one behind it.
+    private static void oneFormulaBehindAnother() {
+        RotaMuseum x = new RotaMuseum();
+        String base = HEAD + "gang g at 1;thing t worth 1 hangs 0;may ";
+        for (int i = 0; i < 4; i++) {
+            Kit.town(x, base + "700=1" + "+1".repeat(699) + ";");
+            due("a long one", x.gang(0, 2), 1);
+            Kit.town(x, base + "700=2" + "+1".repeat(699) + ";");
+            due("a long one", x.gang(0, 2), 0);
+            Kit.town(x, base + "not all;");
+            due("a short one", x.gang(0, 2), 0);
+            Kit.town(x, base + "not all;");
+            due("a short one", x.gang(0, 2), 0);
+            Kit.town(x, base + "all;");
+            due("a shorter one", x.gang(0, 2), 1);
+            Kit.town(x, base + "all;");
+            due("a shorter one", x.gang(0, 2), 1);
+        }
+    }
+
     // Nothing of what was read before is left in a text that is read later, whether it stood or had a FAULT.
     private static void oneTownBehindAnother() {
         String full = "museum 9 keeps 9;" + things(8) + gangs(6) + visitors(6) + "rota ga gb;wants ga ta 9;wants gf th 8;draws 7*worth;may not all;quarrel 100;";
@@ -1040,6 +1060,7 @@ public final class EdgeTownTest {
         signsTogether();
         drawsAndMay();
         oneTownBehindAnother();
+        oneFormulaBehindAnother();
         Kit.finish("EdgeTownTest");
     }
 }
