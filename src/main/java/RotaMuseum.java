@@ -978,7 +978,16 @@ public final class RotaMuseum {
             open = 0;
         }
 
-        boolean sum() {
+        // Apart from sum() and test(), since those call themselves round and so are private.
+        boolean readSum() {
+            return sum();
+        }
+
+        boolean readTest() {
+            return test();
+        }
+
+        private boolean sum() {
             if (!product()) {
                 return false;
             }
@@ -1065,7 +1074,7 @@ public final class RotaMuseum {
             return true;
         }
 
-        boolean test() {
+        private boolean test() {
             if (!both()) {
                 return false;
             }
@@ -1360,14 +1369,14 @@ public final class RotaMuseum {
 
         private boolean readDraws() {
             target.drawsFrom = target.codeLength;
-            boolean stands = formulas.sum();
+            boolean stands = formulas.readSum();
             target.drawsTo = target.codeLength;
             return stands;
         }
 
         private boolean readMay() {
             target.mayFrom = target.codeLength;
-            boolean stands = formulas.test();
+            boolean stands = formulas.readTest();
             target.mayTo = target.codeLength;
             return stands;
         }
